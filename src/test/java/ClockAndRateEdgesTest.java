@@ -41,8 +41,26 @@ public final class ClockAndRateEdgesTest extends Runs {
             "restart; byClock 0 0 = 50; byClock 0 999 = 1004");
         run("block 0 0; block 0 0; input 0; channel 0 1 50; buffers 0 3; output 1; build = 4; offer 0 3; tick 1 = 16",
             "offer 0 4; tick 1 = 16; given 0 = 0; byClock 0 0 = 50; byClock 0 1 = 3; byClock 0 2 = index");
+        largestByTheClock();
         run(COUNTER, "build = 2; byClock 1 7 = 13; clear; block 0 2; block 0 0; channel 0 0 5; channel 0 1 50; output 1; output 0",
             "build = 2; byClock 1 7 = 21; byClock 0 0 = 50; byClock 0 1 = 7");
+    }
+
+    /** As many blocks, channels and ports as there may be: a ring in which values go round twice as large. */
+    private static void largestByTheClock() {
+        StringBuilder ring = new StringBuilder();
+        for (int block = 0; block < 10; block++) {
+            ring.append("block 0 ").append(block).append(";");
+        }
+        for (int channel = 0; channel < 20; channel++) {
+            ring.append("channel " + channel % 10 + " " + (channel + 1) % 10 + " " + channel * channel + ";");
+        }
+        run(ring.toString(), "input 9; input 0; input 9; input 5; output 9; output 0; output 8; output 5; build = 20",
+            "offer 0 1000; offer 1 2000; offer 2 3000; offer 3 4000; tick 0 = 255",
+            "byClock 0 0 = 4397; byClock 1 0 = 2442; byClock 2 0 = 346; byClock 3 0 = 4217; byClock 0 1 = index",
+            "value 0 0 = 4397@0; value 1 0 = 2442@0; value 2 0 = 346@0; value 3 0 = 4217@0",
+            "offer 0 1; offer 1 2; offer 2 3; offer 3 4; tick 0 = 255",
+            "byClock 0 1 = 705; byClock 1 1 = 8796; byClock 2 1 = 606; byClock 3 1 = 373");
     }
 
     private static void clockNotBuilt() {

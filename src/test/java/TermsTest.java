@@ -38,6 +38,7 @@ public final class TermsTest extends Runs {
         rateOfABlock();
         rateForwards();
         rateBackwards();
+        rateOfTheLargest();
         finish();
     }
 
@@ -285,6 +286,34 @@ public final class TermsTest extends Runs {
             chainFillsAndDrains(n, early + late, 0, 1);
             chainFillsAndDrains(n, late + early, 1, 0);
         }
+        roomGoesBack(0, 1);
+        roomGoesBack(1, 0);
+    }
+
+    /** In a full row, the room that a token leaves behind goes back by one buffer a tick. */
+    private static void roomGoesBack(int a, int b) {
+        ElasticNets x = run("block 0 0; block 0 0; channel " + a + " " + b + " 1; buffers 0 3; output " + b + "; build = 4",
+            "run 20 1 = 20; turns " + a + " = 7");
+        rowIs(x, "tick 0 = 1", 2, 2, 2, 1);
+        rowIs(x, "tick 1 = 0", 2, 2, 1, 2);
+        rowIs(x, "tick 1 = 0", 2, 1, 2, 2);
+        rowIs(x, "tick 1 = 0", 1, 2, 2, 2);
+        go(x, "turns " + a + " = 7");
+        rowIs(x, "tick 1 = 0", 2, 2, 2, 2);
+        go(x, "turns " + a + " = 8");
+        rowIs(x, "tick 0 = 1", 2, 2, 2, 1);
+        rowIs(x, "tick 0 = 1", 2, 2, 1, 1);
+        rowIs(x, "tick 0 = 1", 2, 1, 1, 1);
+        rowIs(x, "tick 0 = 1", 1, 1, 1, 1);
+        rowIs(x, "tick 0 = 1", 1, 1, 1, 1);
+        go(x, "turns " + a + " = 9");
+    }
+
+    private static void rowIs(ElasticNets x, String calls, int... tokens) {
+        go(x, calls);
+        for (int buffer = 0; buffer < tokens.length; buffer++) {
+            go(x, "inside 0 " + buffer + " = " + tokens[buffer]);
+        }
     }
 
     private static void chainFillsAndDrains(int[] n, String channels, int p, int q) {
@@ -414,6 +443,20 @@ public final class TermsTest extends Runs {
         run(design, "build; rate 0 = " + tokens + "; rate 1 = " + length);
     }
 
+    /** The same rate, whatever numbers the blocks have: in the design they are letters, from A on. */
+    private static void rateOfLetters(int tokens, int length, int blocks, String design) {
+        for (int shift = 0; shift < blocks; shift++) {
+            for (int turned = 0; turned < 2; turned++) {
+                String numbered = design;
+                for (int i = 0; i < blocks; i++) {
+                    int number = (turned == 0 ? i + shift : blocks - 1 - i + shift) % blocks;
+                    numbered = numbered.replace(" " + (char) ('A' + i), " " + number);
+                }
+                rateIs(tokens, length, often(blocks, "block 0 0") + numbered);
+            }
+        }
+    }
+
     private static void rateIsTheLeast() {
         sentence("THE RATE is the least ratio of tokens to length of all cycles of arcs in this graph");
         String slow = "channel 0 0 0; buffers 0 2; channel 1 1 0; buffers 1 3; channel 2 2 0; buffers 2 1;";
@@ -453,17 +496,43 @@ public final class TermsTest extends Runs {
      */
     private static void rateBackwards() {
         sentence("and the other way, but from the block's end in place of its ready: 2 - t tokens, length 1");
-        String two = "block 0 0; block 0 0; channel 0 1 0; buffers 0 3; channel 0 1 0;";
-        rateIs(1, 2, two);
-        rateIs(5, 7, two + "buffers 1 1");
-        rateIs(7, 8, two + "buffers 1 2");
-        rateIs(1, 1, two + "buffers 1 3");
-        String three = "block 0 0; block 0 0; block 0 0; channel 0 1 0; buffers 0 3; channel 0 2 0; channel 2 1 0;";
-        rateIs(4, 7, three);
-        rateIs(3, 4, three + "buffers 1 1");
-        rateIs(3, 4, three + "buffers 2 1");
-        String four = "block 0 0; block 0 0; block 0 0; block 0 0; channel 0 1 0; channel 1 2 0; buffers 0 3; buffers 1 3;"
-            + "channel 0 3 0; channel 3 2 0;";
-        rateIs(5, 11, four);
+        String two = "channel A B 0; buffers 0 3; channel A B 0;";
+        rateOfLetters(1, 2, 2, two);
+        rateOfLetters(5, 7, 2, two + "buffers 1 1");
+        rateOfLetters(7, 8, 2, two + "buffers 1 2");
+        rateOfLetters(1, 1, 2, two + "buffers 1 3");
+        String three = "channel A B 0; buffers 0 3; channel A C 0; channel C B 0;";
+        rateOfLetters(4, 7, 3, three);
+        rateOfLetters(3, 4, 3, three + "buffers 1 1");
+        rateOfLetters(3, 4, 3, three + "buffers 2 1");
+        String four = "channel A B 0; channel B C 0; buffers 0 3; buffers 1 3; channel A D 0; channel D C 0;";
+        rateOfLetters(5, 11, 4, four);
+        rateOfLetters(5, 11, 10, four);
+    }
+
+    /** As many blocks, channels and buffers as there may be. */
+    private static void rateOfTheLargest() {
+        sentence("there is one for each two that follow");
+        StringBuilder rings = new StringBuilder(often(10, "block 0 0"));
+        for (int channel = 0; channel < 20; channel++) {
+            int from = channel % 10;
+            int to = (channel < 10 ? from + 1 : from + 9) % 10;
+            rings.append("channel " + from + " " + to + " 0; buffers " + channel + " 3;");
+        }
+        rateIs(1, 4, rings.toString());
+        // A ring that is faster than the other waits for it: 10 of 40 against 10 of 10.
+        for (int channel = 10; channel < 20; channel++) {
+            rings.append("buffers " + channel + " 0;");
+        }
+        rateIs(1, 4, rings.toString());
+        StringBuilder ladder = new StringBuilder(often(10, "block 0 0"));
+        for (int channel = 0; channel < 9; channel++) {
+            ladder.append("channel " + (9 - channel) + " " + (8 - channel) + " 0; buffers " + channel + " 3;");
+        }
+        for (int channel = 9; channel < 18; channel++) {
+            ladder.append("channel " + (18 - channel) + " " + (17 - channel) + " 0;");
+        }
+        // 9 long channels there, 9 short ones back, and the first block's turn.
+        rateIs(19, 46, ladder.toString());
     }
 }

@@ -284,18 +284,16 @@ public final class PromisesTest {
         due("the first one's value stayed", (1L << 32) + 11, () -> x.value(0, 0));
         due("again", true, () -> x.offer(0, 4));
 
-        ElasticNets full = new ElasticNets();
-        full.block(0, 0);
-        full.input(0);
-        full.build();
-        for (int i = 0; i < 999; i++) {
-            full.offer(0, i);
-            full.tick(0);
+        ElasticNets often = new ElasticNets();
+        often.block(0, 0);
+        often.input(0);
+        often.build();
+        for (int i = 0; i < 250; i++) {
+            often.offer(0, i);
+            often.tick(0);
         }
-        due("the 1000th", true, () -> full.offer(0, 0));
-        full.tick(0);
-        due("taken", 1000, () -> full.taken(0));
-        due("the port has taken 1000", false, () -> full.offer(0, 0));
+        due("taken", 250, () -> often.taken(0));
+        due("far from 1000", true, () -> often.offer(0, 0));
     }
 
     private static void tick() {

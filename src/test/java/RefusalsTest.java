@@ -10,6 +10,9 @@ public final class RefusalsTest extends Runs {
 
     private static final String[] WRONG_BLOCKS = {"-1", "10", "MIN", "MAX"};
 
+    /** When an object is asked for its state. */
+    private enum Asked { AT_ONCE, AFTER_TICKS, AFTER_RESTART }
+
     public static void main(String[] args) {
         stateComesFirstWhenBuilt();
         stateComesFirstWhenNotBuilt();
@@ -100,17 +103,25 @@ public final class RefusalsTest extends Runs {
         changeNothing(AT_THE_END, "-1", "tick 0", "tick 3", "tick -1");
     }
 
-    /** Each call alone, and all of them, leave an object that tells the same as one on which they were not made. */
+    /**
+     * Each call alone, and all of them, leave an object that tells the same as one on which they were not made.
+     * One object is not used for calls enough to tell all, so each way of asking has objects of its own.
+     */
     private static void changeNothing(String before, String want, String... calls) {
-        String undisturbed = probed(run(before));
-        ElasticNets all = run(before);
         for (String call : calls) {
-            ElasticNets x = run(before);
-            same(call, answer(x, call), want);
-            sameProbes("after " + call, probed(x), undisturbed);
-            answer(all, call);
+            same(call, answer(run(before), call), want);
         }
-        sameProbes("after all of them", probed(all), undisturbed);
+        for (Asked asked : Asked.values()) {
+            String undisturbed = probed(run(before), asked);
+            ElasticNets all = run(before);
+            for (String call : calls) {
+                ElasticNets x = run(before);
+                answer(x, call);
+                sameProbes("after " + call, probed(x, asked), undisturbed);
+                answer(all, call);
+            }
+            sameProbes("after all of them", probed(all, asked), undisturbed);
+        }
     }
 
     /** Only the first call that is answered otherwise is told. */
@@ -126,16 +137,19 @@ public final class RefusalsTest extends Runs {
     }
 
     /** What an object answers to a long row of calls, that show its design and the state of its machine. */
-    private static String probed(ElasticNets x) {
+    private static String probed(ElasticNets x, Asked asked) {
         StringBuilder told = new StringBuilder();
-        tell(x, told, "ticks");
         if (answer(x, "ticks").equals("state")) {
             probeDesign(x, told);
             tell(x, told, "build");
         }
-        probeMachine(x, told);
-        tell(x, told, "restart");
-        probeMachine(x, told);
+        if (asked == Asked.AFTER_RESTART) {
+            tell(x, told, "restart");
+        }
+        if (asked != Asked.AT_ONCE) {
+            probeTicks(x, told);
+        }
+        probeState(x, told);
         tell(x, told, "clear");
         tell(x, told, "ticks");
         return told.toString();
@@ -162,8 +176,7 @@ public final class RefusalsTest extends Runs {
         }
     }
 
-    private static void probeMachine(ElasticNets x, StringBuilder told) {
-        probeState(x, told);
+    private static void probeTicks(ElasticNets x, StringBuilder told) {
         for (int round = 0; round < 12; round++) {
             for (int port = 0; port < 4; port++) {
                 tell(x, told, "offer " + port + " " + (round * 10 + port));
@@ -171,7 +184,6 @@ public final class RefusalsTest extends Runs {
             tell(x, told, "tick " + round * 7 % 16);
         }
         tell(x, told, "run 20 0");
-        probeState(x, told);
     }
 
     private static void probeState(ElasticNets x, StringBuilder told) {

@@ -1,3 +1,6 @@
+import java.util.Map;
+import java.util.WeakHashMap;
+
 /**
  * Runs of calls on new objects, written as text, each told under the sentence of the document that it
  * tests. A run is calls with ; or a new line between them; a call may have the answer that is due
@@ -5,6 +8,10 @@
  * written state, argument or index; 7@3 is what value answers for 7 that came in tick 3.
  */
 abstract class Runs {
+    /** What later calls on an object answer is free, so a test must not ask for it. */
+    private static final int MOST_CALLS = 512;
+
+    private static final Map<ElasticNets, Integer> CALLS = new WeakHashMap<>();
     private static int wrong = 0;
     private static int sentences = 0;
     private static String sentence = "";
@@ -76,6 +83,7 @@ abstract class Runs {
 
     /** A call's answer as text, or the first word of the exception that it throws. */
     static String answer(ElasticNets x, String call) {
+        countCall(x, call);
         String[] words = call.split(" +");
         int[] a = new int[words.length - 1];
         for (int i = 0; i < a.length; i++) {
@@ -85,6 +93,13 @@ abstract class Runs {
             return answer(x, words[0], a);
         } catch (RuntimeException e) {
             return nameOf(e);
+        }
+    }
+
+    private static void countCall(ElasticNets x, String call) {
+        if (CALLS.merge(x, 1, Integer::sum) == MOST_CALLS + 1) {
+            wrong++;
+            System.out.println("\"" + sentence + "\": " + call + " is asked behind the last call that has an answer");
         }
     }
 
